@@ -24,12 +24,12 @@ public final class HullOffsets {
     private static final int FITS = 0;
 
     private final Grid grid = new Grid();
+    private final Line taken = new Line();
     private final LeastMoves search = new LeastMoves();
     private final Heights heights = new Heights();
     private final int[] settings = SETTING_FIRST.clone();
     private final int[] asBegun = new int[CELLS];
-    private final long[] row = new long[MOST_POINTS];
-    private final long[] areas = new long[MOST_POINTS];
+    private final int[] values = new int[MOST_POINTS];
 
     public HullOffsets() {
         grid.renew(FIRST_STATIONS, FIRST_LINES);
@@ -98,7 +98,8 @@ public final class HullOffsets {
         if (refusal != FITS) {
             return refusal;
         }
-        return isNot(i, 1, grid.pointsOf(view) - 2) ? OUTSIDE : grid.bendAt(view, k, i);
+        takeLine(view, k);
+        return isNot(i, 1, taken.points - 2) ? OUTSIDE : taken.bendAt(i);
     }
 
     public int jump(int view, int k, int i) {
@@ -106,7 +107,8 @@ public final class HullOffsets {
         if (refusal != FITS) {
             return refusal;
         }
-        return isNot(i, 1, grid.lastJumpOf(view)) ? OUTSIDE : grid.jumpAt(view, k, i);
+        takeLine(view, k);
+        return isNot(i, 1, taken.points - 3) ? OUTSIDE : taken.jumpAt(i);
     }
 
     public int roughest(int what) {
@@ -118,9 +120,9 @@ public final class HullOffsets {
         int farLine = 0;
         for (int view = 0; view < VIEWS; view++) {
             for (int k = 0; k < grid.linesOf(view); k++) {
-                int farHere = grid.farthestJump(view, k);
-                if (farHere > far) {
-                    far = farHere;
+                takeLine(view, k);
+                if (taken.farthestJump() > far) {
+                    far = taken.farthestJump();
                     farView = view;
                     farLine = k;
                 }
@@ -134,13 +136,18 @@ public final class HullOffsets {
             case 2:
                 return farLine;
             default:
-                return grid.firstJumpThatFar(farView, farLine, far);
+                takeLine(farView, farLine);
+                return taken.firstJumpThatFar(far);
         }
     }
 
     public int rough(int view, int k) {
         int refusal = refusalOfLine(view, k);
-        return refusal != FITS ? refusal : grid.countJumpsBeyond(view, k, settings[BOUND]);
+        if (refusal != FITS) {
+            return refusal;
+        }
+        takeLine(view, k);
+        return taken.countJumpsBeyond(settings[BOUND]);
     }
 
     // ---- 2 made fair
@@ -162,8 +169,12 @@ public final class HullOffsets {
         if (refusal != FITS) {
             return refusal;
         }
-        int total = fairLine(view, k);
-        return total == NONE ? STATE : total;
+        int total = seekLeast(view, k);
+        if (total == NONE) {
+            return STATE;
+        }
+        addMoves(view, k);
+        return total;
     }
 
     public int rounds(int n) {
@@ -196,23 +207,22 @@ public final class HullOffsets {
         if (refusalOfLine(view, k) != FITS || isNot(which, 0, 1)) {
             return LOST;
         }
-        return toldShare(areaSixths(view, k), 6, which);
+        return toldShare(areaInSixths(view, k), 6, which);
     }
 
     public long centre(int view, int k, int which) {
         if (refusalOfLine(view, k) != FITS || isNot(which, 0, 1)) {
             return LOST;
         }
-        int points = grid.pointsOf(view);
-        grid.copyLine(view, k, row);
-        long whole = sumInSixths(row, points);
+        takeLine(view, k);
+        int whole = sumInSixths(taken.offsets, taken.points);
         if (whole == 0) {
             return LOST;
         }
-        for (int i = 0; i < points; i++) {
-            row[i] *= i;
+        for (int i = 0; i < taken.points; i++) {
+            values[i] = taken.offsets[i] * i;
         }
-        return toldShare(sumInSixths(row, points), whole, which);
+        return toldShare(sumInSixths(values, taken.points), whole, which);
     }
 
     public long volume(int view, int which) {
@@ -221,10 +231,10 @@ public final class HullOffsets {
         }
         int count = grid.linesOf(view);
         for (int k = 0; k < count; k++) {
-            areas[k] = areaSixths(view, k);
+            values[k] = areaInSixths(view, k);
         }
-        int apart = view == WATER_LINE_VIEW ? settings[HIGH] : settings[LONG];
-        return toldShare(sumInSixths(areas, count) * apart, 36, which);
+        long apart = view == WATER_LINE_VIEW ? settings[HIGH] : settings[LONG];
+        return toldShare(sumInSixths(values, count) * apart, 36, which);
     }
 
     // ---- 4 the third view
@@ -293,11 +303,16 @@ public final class HullOffsets {
         return isNot(k, 0, grid.linesOf(view) - 1) ? UNKNOWN : FITS;
     }
 
+    private void takeLine(int view, int k) {
+        grid.layOut(view, k, taken);
+    }
+
     private int countUnfair() {
         int count = 0;
         for (int view = 0; view < VIEWS; view++) {
             for (int k = 0; k < grid.linesOf(view); k++) {
-                if (grid.farthestJump(view, k) > settings[BOUND]) {
+                takeLine(view, k);
+                if (taken.farthestJump() > settings[BOUND]) {
                     count++;
                 }
             }
@@ -309,32 +324,28 @@ public final class HullOffsets {
     private int seekLeast(int view, int k) {
         int bound = settings[BOUND];
         int reach = settings[REACH];
-        int far = grid.farthestJump(view, k);
+        takeLine(view, k);
+        int far = taken.farthestJump();
         if (far <= bound) {
             search.stay();
             return 0;
         }
-        // Four moves come into a jump, 1, 3, 3 and 1 times: it can't come nearer to 0 than by 8 reaches.
+        // Four moves come into a jump, 1, 3, 3 and 1 times, so it comes nearer to 0 by 8 reaches at most.
         if (far > bound + 8 * reach) {
             return NONE;
         }
-        int points = grid.pointsOf(view);
-        for (int i = 0; i < points; i++) {
-            int cell = grid.cell(view, k, i);
-            search.place(i, grid.offsets[cell], grid.held[cell] ? 0 : reach);
+        for (int i = 0; i < taken.points; i++) {
+            boolean held = grid.held[grid.cell(view, k, i)];
+            search.place(i, taken.offsets[i], held ? 0 : reach);
         }
-        return search.seek(points, bound);
+        return search.seek(taken.points, bound);
     }
 
-    private int fairLine(int view, int k) {
-        int total = seekLeast(view, k);
-        if (total > 0) {
-            int points = grid.pointsOf(view);
-            for (int i = 0; i < points; i++) {
-                grid.offsets[grid.cell(view, k, i)] += search.moveOf(i);
-            }
+    private void addMoves(int view, int k) {
+        int points = grid.pointsOf(view);
+        for (int i = 0; i < points; i++) {
+            grid.offsets[grid.cell(view, k, i)] += search.moveOf(i);
         }
-        return total;
     }
 
     /** One ROUND. What one view moves the other may move back, so only the offsets themselves tell a change. */
@@ -342,7 +353,9 @@ public final class HullOffsets {
         System.arraycopy(grid.offsets, 0, asBegun, 0, CELLS);
         for (int view = 0; view < VIEWS; view++) {
             for (int k = 0; k < grid.linesOf(view); k++) {
-                fairLine(view, k);
+                if (seekLeast(view, k) != NONE) {
+                    addMoves(view, k);
+                }
             }
         }
         for (int cell = 0; cell < CELLS; cell++) {
@@ -353,24 +366,27 @@ public final class HullOffsets {
         return false;
     }
 
-    private long areaSixths(int view, int k) {
-        grid.copyLine(view, k, row);
+    private int areaInSixths(int view, int k) {
+        takeLine(view, k);
         int apart = view == WATER_LINE_VIEW ? settings[LONG] : settings[HIGH];
-        return sumInSixths(row, grid.pointsOf(view)) * apart;
+        return sumInSixths(taken.offsets, taken.points) * apart;
     }
 
-    /** SUM by the RULE, six times, so that its thirds and halves are whole. */
-    private static long sumInSixths(long[] values, int n) {
-        if (n < 3 || n > values.length) {
+    /**
+     * SUM by the RULE, six times, so that its thirds and halves are whole. An int has room for it:
+     * the greatest, of the areas of 9 stations and 7 water lines in sixths, is some 171 million.
+     */
+    private static int sumInSixths(int[] row, int n) {
+        if (n < 3 || n > row.length) {
             return 0;
         }
         int ruled = n % 2 == 0 ? n - 1 : n;
-        long thirds = values[0] + values[ruled - 1];
+        int thirds = row[0] + row[ruled - 1];
         for (int i = 1; i < ruled - 1; i++) {
-            thirds += (i % 2 == 0 ? 2 : 4) * values[i];
+            thirds += (i % 2 == 0 ? 2 : 4) * row[i];
         }
-        long sixths = 2 * thirds;
-        return ruled == n ? sixths : sixths + 3 * (values[n - 2] + values[n - 1]);
+        int sixths = 2 * thirds;
+        return ruled == n ? sixths : sixths + 3 * (row[n - 2] + row[n - 1]);
     }
 
     /** The upper (which 0) or the lower number of a share in least terms. */
@@ -438,53 +454,11 @@ public final class HullOffsets {
             return view == STATION_VIEW ? cellOf(k, i) : cellOf(i, k);
         }
 
-        private int at(int view, int k, int i) {
-            return offsets[cell(view, k, i)];
-        }
-
-        private void copyLine(int view, int k, long[] into) {
-            int points = Math.min(pointsOf(view), into.length);
-            for (int i = 0; i < points; i++) {
-                into[i] = at(view, k, i);
+        private void layOut(int view, int k, Line into) {
+            into.points = pointsOf(view);
+            for (int i = 0; i < into.points; i++) {
+                into.offsets[i] = offsets[cell(view, k, i)];
             }
-        }
-
-        private int bendAt(int view, int k, int i) {
-            return at(view, k, i - 1) + at(view, k, i + 1) - 2 * at(view, k, i);
-        }
-
-        private int jumpAt(int view, int k, int i) {
-            return bendAt(view, k, i + 1) - bendAt(view, k, i);
-        }
-
-        private int lastJumpOf(int view) {
-            return pointsOf(view) - 3;
-        }
-
-        private int farthestJump(int view, int k) {
-            int far = 0;
-            for (int i = 1; i <= lastJumpOf(view); i++) {
-                far = Math.max(far, Math.abs(jumpAt(view, k, i)));
-            }
-            return far;
-        }
-
-        private int firstJumpThatFar(int view, int k, int far) {
-            int i = 1;
-            while (i < lastJumpOf(view) && Math.abs(jumpAt(view, k, i)) != far) {
-                i++;
-            }
-            return i;
-        }
-
-        private int countJumpsBeyond(int view, int k, int bound) {
-            int count = 0;
-            for (int i = 1; i <= lastJumpOf(view); i++) {
-                if (Math.abs(jumpAt(view, k, i)) > bound) {
-                    count++;
-                }
-            }
-            return count;
         }
 
         private int movedBy(int cell) {
@@ -518,6 +492,46 @@ public final class HullOffsets {
         }
     }
 
+    /** The OFFSETS of one LINE, laid out as a row by its POINTS. */
+    private static final class Line {
+        private final int[] offsets = new int[MOST_POINTS];
+        private int points;
+
+        private int bendAt(int i) {
+            return offsets[i - 1] + offsets[i + 1] - 2 * offsets[i];
+        }
+
+        private int jumpAt(int i) {
+            return bendAt(i + 1) - bendAt(i);
+        }
+
+        private int farthestJump() {
+            int far = 0;
+            for (int i = 1; i <= points - 3; i++) {
+                far = Math.max(far, Math.abs(jumpAt(i)));
+            }
+            return far;
+        }
+
+        private int firstJumpThatFar(int far) {
+            int i = 1;
+            while (i < points - 3 && Math.abs(jumpAt(i)) != far) {
+                i++;
+            }
+            return i;
+        }
+
+        private int countJumpsBeyond(int bound) {
+            int count = 0;
+            for (int i = 1; i <= points - 3; i++) {
+                if (Math.abs(jumpAt(i)) > bound) {
+                    count++;
+                }
+            }
+            return count;
+        }
+    }
+
     /**
      * Seeks LEAST of one LINE. A JUMP spans four POINTS, so what a move may be depends on the three
      * moves before it alone. From the last POINT back to the first, for every three moves before a
@@ -537,7 +551,8 @@ public final class HullOffsets {
         private final int[] low = new int[BEFORE + MOST_POINTS];
         private final int[] top = new int[BEFORE + MOST_POINTS];
         private final int[] moves = new int[BEFORE + MOST_POINTS];
-        private final int[] fewest = new int[MOST_POINTS * TRIPLES];
+        // By how many points are left, and the three moves before them; with none left it stays 0.
+        private final int[] fewest = new int[(MOST_POINTS + 1) * TRIPLES];
         private int points;
         private int bound;
 
@@ -584,21 +599,23 @@ public final class HullOffsets {
         }
 
         private int fewestFrom(int i, int a, int b, int c) {
+            int behind = slot(i + 1, b, c, 0);
             int jump = jumpUnmoved(i, a, b, c);
             int last = lastFit(i, jump);
             int best = NEVER;
             for (int m = firstFit(i, jump); m <= last; m++) {
-                best = Math.min(best, withRest(i, b, c, m));
+                best = Math.min(best, Math.abs(m) + fewest[behind + m]);
             }
             return best;
         }
 
         private int firstLeading(int i, int a, int b, int c) {
             int goal = fewest[slot(i, a, b, c)];
+            int behind = slot(i + 1, b, c, 0);
             int jump = jumpUnmoved(i, a, b, c);
             int last = lastFit(i, jump);
             int m = firstFit(i, jump);
-            while (m < last && withRest(i, b, c, m) != goal) {
+            while (m < last && Math.abs(m) + fewest[behind + m] != goal) {
                 m++;
             }
             return m;
@@ -622,13 +639,9 @@ public final class HullOffsets {
             return i < BEFORE ? highest : Math.min(highest, bound - jump);
         }
 
-        private int withRest(int i, int b, int c, int m) {
-            int rest = i == points - 1 ? 0 : fewest[slot(i + 1, b, c, m)];
-            return Math.abs(m) + rest;
-        }
-
-        private static int slot(int i, int a, int b, int c) {
-            return i * TRIPLES + ((a + MOST_REACH) * WIDTH + b + MOST_REACH) * WIDTH + c + MOST_REACH;
+        private int slot(int i, int a, int b, int c) {
+            int triple = ((a + MOST_REACH) * WIDTH + b + MOST_REACH) * WIDTH + c + MOST_REACH;
+            return (points - i) * TRIPLES + triple;
         }
     }
 
@@ -643,7 +656,7 @@ public final class HullOffsets {
 
         private void measure(Grid grid, int station, int b) {
             int w = 0;
-            while (w < grid.lines && grid.at(STATION_VIEW, station, w) < b) {
+            while (w < grid.lines && grid.offsets[cellOf(station, w)] < b) {
                 w++;
             }
             if (w == grid.lines) {
@@ -653,8 +666,8 @@ public final class HullOffsets {
                 upper[station] = 0;
                 lower[station] = 1;
             } else {
-                int below = grid.at(STATION_VIEW, station, w - 1);
-                lower[station] = grid.at(STATION_VIEW, station, w) - below;
+                int below = grid.offsets[cellOf(station, w - 1)];
+                lower[station] = grid.offsets[cellOf(station, w)] - below;
                 upper[station] = (w - 1) * lower[station] + b - below;
             }
         }

@@ -94,8 +94,11 @@ public final class AgainstPlainTest {
         }
     }
 
-    /** Most numbers fit; some are just beside what fits. */
+    /** Most numbers fit; some are just beside what fits, few as far off as can be. */
     private int mostly(int n) {
+        if (below(80) == 0) {
+            return below(2) == 0 ? Integer.MIN_VALUE : Integer.MAX_VALUE;
+        }
         return below(15) == 0 ? below(n + 4) - 2 : below(n);
     }
 
