@@ -28,6 +28,10 @@ final class Check {
         return wrong;
     }
 
+    int asked() {
+        return asked;
+    }
+
     /** Ends the program with exit code 1, if an answer was wrong or nothing was asked. */
     void end() {
         System.out.println(test + ": " + asked + " answers, " + wrong + " not as due");

@@ -31,9 +31,11 @@ final class Hulls {
 
     /** All that a point tells, of all points, and how many there are of each thing: two states that differ differ here. */
     static String seen(HullOffsets x) {
+        int stations = x.many(0);
+        int lines = x.many(1);
         StringBuilder all = new StringBuilder();
-        for (int s = 0; s < x.many(0); s++) {
-            for (int w = 0; w < x.many(1); w++) {
+        for (int s = 0; s < stations; s++) {
+            for (int w = 0; w < lines; w++) {
                 for (int what = 0; what <= 2; what++) {
                     all.append(x.ofPoint(s, w, what)).append(what == 2 ? ' ' : ',');
                 }
