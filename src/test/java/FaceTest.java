@@ -1,13 +1,14 @@
+import java.lang.reflect.Array;
 import java.lang.reflect.Constructor;
 import java.lang.reflect.Field;
 import java.lang.reflect.Method;
 import java.lang.reflect.Modifier;
-import java.nio.file.Files;
-import java.nio.file.Path;
+import java.util.Collections;
+import java.util.IdentityHashMap;
 import java.util.Set;
 import java.util.TreeSet;
 
-/** The public face of the document, and those rules of LANGUAGE.md that can be told from the class and its text. */
+/** The public face of the document, with nothing visible beside it, and the room that an object takes. */
 public final class FaceTest {
     private static final Check CHECK = new Check("FaceTest");
 
@@ -22,7 +23,7 @@ public final class FaceTest {
         constants();
         members();
         namesOfOwn();
-        text();
+        room();
         CHECK.end();
     }
 
@@ -35,6 +36,8 @@ public final class FaceTest {
         for (String name : new String[] {"UNKNOWN", "OUTSIDE", "STATE", "NONE", "LOST"}) {
             Field field = HullOffsets.class.getField(name);
             CHECK.isTrue(name + " is of its type", field.getType() == (name.equals("LOST") ? long.class : int.class));
+            CHECK.isTrue(name + " is a constant", Modifier.isStatic(field.getModifiers())
+                    && Modifier.isFinal(field.getModifiers()));
         }
         CHECK.due("public fields", HullOffsets.class.getFields().length, 5);
     }
@@ -48,18 +51,23 @@ public final class FaceTest {
     }
 
     private static void members() {
-        CHECK.isTrue("the class is final", Modifier.isFinal(HullOffsets.class.getModifiers()));
+        int isClass = HullOffsets.class.getModifiers();
+        CHECK.isTrue("the class is public and final", Modifier.isPublic(isClass) && Modifier.isFinal(isClass));
+        CHECK.isTrue("it extends nothing", HullOffsets.class.getSuperclass() == Object.class);
+        CHECK.due("interfaces of the class", HullOffsets.class.getInterfaces().length, 0);
+        CHECK.due("public classes inside it", HullOffsets.class.getClasses().length, 0);
         Set<String> found = new TreeSet<>();
         for (Method method : HullOffsets.class.getDeclaredMethods()) {
-            if (!Modifier.isPrivate(method.getModifiers())) {
+            int is = method.getModifiers();
+            if (!Modifier.isPrivate(is)) {
                 found.add(face(method));
+                CHECK.isTrue(method + " is public and of an object", Modifier.isPublic(is) && !Modifier.isStatic(is));
             }
         }
         CHECK.isTrue("the methods are those of the document: " + found, found.equals(METHODS));
         for (Field field : HullOffsets.class.getDeclaredFields()) {
             int is = field.getModifiers();
             CHECK.isTrue(field + " is public or private", Modifier.isPublic(is) || Modifier.isPrivate(is));
-            CHECK.isTrue(field + " is final, if static", !Modifier.isStatic(is) || Modifier.isFinal(is));
         }
         Constructor<?>[] constructors = HullOffsets.class.getDeclaredConstructors();
         CHECK.due("constructors", constructors.length, 1);
@@ -67,25 +75,17 @@ public final class FaceTest {
         CHECK.isTrue("the constructor is public", Modifier.isPublic(constructors[0].getModifiers()));
     }
 
+    /** Rule 1 of LANGUAGE.md: no private method, of the classes inside either, bears the name of a public one. */
     private static void namesOfOwn() {
-        Class<?>[] inside = HullOffsets.class.getDeclaredClasses();
-        CHECK.isTrue("there are at most twelve classes", inside.length < 12);
-        limits(HullOffsets.class);
-        for (Class<?> own : inside) {
-            CHECK.isTrue(own + " is static", Modifier.isStatic(own.getModifiers()));
-            limits(own);
+        namesOfOwn(HullOffsets.class);
+        for (Class<?> own : HullOffsets.class.getDeclaredClasses()) {
+            namesOfOwn(own);
         }
     }
 
-    private static void limits(Class<?> own) {
-        int fields = 0;
-        for (Field field : own.getDeclaredFields()) {
-            fields += Modifier.isStatic(field.getModifiers()) ? 0 : 1;
-        }
-        CHECK.isTrue(own + " has at most twenty fields", fields <= 20);
+    private static void namesOfOwn(Class<?> own) {
         for (Method method : own.getDeclaredMethods()) {
-            CHECK.isTrue(method + " takes at most seven parameters", method.getParameterCount() <= 7);
-            boolean isFace = Modifier.isPublic(method.getModifiers());
+            boolean isFace = own == HullOffsets.class && Modifier.isPublic(method.getModifiers());
             CHECK.isTrue(method + " has a name of its own", isFace || !isNameOfFace(method.getName()));
         }
     }
@@ -94,22 +94,59 @@ public final class FaceTest {
         return METHODS.stream().anyMatch(face -> face.contains(" " + name + "("));
     }
 
-    private static void text() throws Exception {
-        String code = Files.readString(Path.of("src/main/java/HullOffsets.java"))
-                .replaceAll("(?s)/\\*.*?\\*/", " ").replaceAll("//[^\n]*", " ");
-        String[] never = {"throw", "throws", "try", "catch", "finally", "synchronized", "assert", "import", "package",
-            "var", "volatile", "transient", "native"};
-        for (String word : never) {
-            CHECK.isTrue("the word " + word + " is not in the class", !code.matches("(?s).*\\b" + word + "\\b.*"));
+    // ---- the room that all objects and calls of a run share
+
+    private static void room() throws Exception {
+        HullOffsets x = new HullOffsets();
+        Set<Object> seen = Collections.newSetFromMap(new IdentityHashMap<>());
+        int places = places(x, seen);
+        // A run may make an object with each of its 512 calls, and more than one such run has to fit.
+        CHECK.isTrue("an object is made of few others: " + seen.size(), seen.size() * 512 < 600_000 / 10);
+        CHECK.isTrue("an object is small: " + places, places * 512 < 7_300_000 / 2);
+        useAll(x);
+        Set<Object> seenAfter = Collections.newSetFromMap(new IdentityHashMap<>());
+        CHECK.due("what an object is made of behind its calls", places(x, seenAfter), places);
+        CHECK.isTrue("nothing is made anew by calls", seenAfter.equals(seen));
+    }
+
+    /** Fields and elements of an object and of all that it holds. */
+    private static int places(Object object, Set<Object> seen) throws Exception {
+        if (object == null || !seen.add(object)) {
+            return 0;
         }
-        CHECK.isTrue("there is no lambda", !code.contains("->"));
-        CHECK.isTrue("there is no method reference", !code.contains("::"));
-        CHECK.isTrue("there is no static block", !code.matches("(?s).*\\bstatic\\s*\\{.*"));
-        CHECK.isTrue("the text is plain", code.chars().allMatch(c -> c == '\n' || c >= 32 && c < 127));
-        for (String line : code.split("\n")) {
-            // All calls of a run share one room: what is made is made with the object and used again.
-            boolean makes = line.matches(".*\\bnew\\b.*") || line.contains(".clone()");
-            CHECK.isTrue("only fields are made: " + line.trim(), !makes || line.trim().startsWith("private final "));
+        if (object.getClass().isArray()) {
+            int places = Array.getLength(object);
+            for (int i = 0; object instanceof Object[] && i < Array.getLength(object); i++) {
+                places += places(Array.get(object, i), seen);
+            }
+            return places;
         }
+        int places = 0;
+        for (Field field : object.getClass().getDeclaredFields()) {
+            if (!Modifier.isStatic(field.getModifiers())) {
+                field.setAccessible(true);
+                places += 1 + (field.getType().isPrimitive() ? 0 : places(field.get(object), seen));
+            }
+        }
+        return places;
+    }
+
+    /** The calls, in a hull that is rough and as large as can be. */
+    private static void useAll(HullOffsets x) throws Exception {
+        x.hull(9, 7);
+        x.setting(1, 3);
+        for (int point = 0; point < 63; point++) {
+            x.offset(point / 7, point % 7, 100 + point * 37 % 11);
+        }
+        for (Method method : HullOffsets.class.getDeclaredMethods()) {
+            if (Modifier.isPublic(method.getModifiers()) && !method.getName().equals("hull")) {
+                Object[] arguments = new Object[method.getParameterCount()];
+                for (int i = 0; i < arguments.length; i++) {
+                    arguments[i] = method.getParameterTypes()[i] == boolean.class ? Boolean.TRUE : Integer.valueOf(1);
+                }
+                method.invoke(x, arguments);
+            }
+        }
+        x.rounds(20);
     }
 }
