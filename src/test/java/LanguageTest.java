@@ -32,6 +32,7 @@ import com.sun.source.util.TreePathScanner;
 import com.sun.source.util.TreeScanner;
 import java.nio.file.Files;
 import java.nio.file.Path;
+import java.util.Collections;
 import java.util.HashSet;
 import java.util.Map;
 import java.util.Set;
@@ -141,6 +142,8 @@ public final class LanguageTest extends TreePathScanner<Void, Void> {
         rule(11, method, "methods stay short", source.linesOf(method) <= MOST_LINES || isUnwritten(method));
         rule(6, method, "no equals, hashCode, toString, and nothing thrown", method.getThrows().isEmpty()
                 && !Set.of("equals", "hashCode", "toString", "finalize").contains(method.getName().toString()));
+        rule(6, method, "no method is synchronized, native or strictfp", Collections.disjoint(method.getModifiers().getFlags(),
+                Set.of(Modifier.SYNCHRONIZED, Modifier.NATIVE, Modifier.STRICTFP)));
         if (method.getReturnType() != null) {
             rule(3, method, "an answer's type", isLet(typeOf(method.getReturnType())));
         }
